@@ -156,7 +156,7 @@ public final class Rollbacker {
         if (game != null) {
             throw new IllegalStateException();
         }
-        game = new Game(players, built, scripts);
+        game = Game.begin(players, built, scripts);
         return built.digest();
     }
 
@@ -1117,17 +1117,24 @@ public final class Rollbacker {
         final LoneRun lone;
         int now;
 
-        Game(int players, World built, Scripts scripts) {
-            peers = new Peer[players];
-            links = new Link[players * players];
+        Game(Peer[] peers, Link[] links, Stepper stepper, LoneRun lone) {
+            this.peers = peers;
+            this.links = links;
+            this.stepper = stepper;
+            this.lone = lone;
+        }
+
+        static Game begin(int players, World built, Scripts scripts) {
+            Peer[] peers = new Peer[players];
             for (int number = 0; number < players; number++) {
                 peers[number] = new Peer(number, players, built);
             }
+            Link[] links = new Link[players * players];
             for (int i = 0; i < links.length; i++) {
                 links[i] = new Link();
             }
-            stepper = new Stepper(scripts);
-            lone = new LoneRun(built, peers, stepper);
+            Stepper stepper = new Stepper(scripts);
+            return new Game(peers, links, stepper, new LoneRun(built, peers, stepper));
         }
 
         boolean isPeer(int number) {

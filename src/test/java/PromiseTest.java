@@ -754,6 +754,27 @@ public final class PromiseTest {
         Check.gives("28 the first one", () -> x.difference(0, 1), 4);
         Rollbacker y = apart();
         y.tick(1);
+        Rollbacker z = started(2);
+        z.tick(1);
+        z.cheat(1, 1, 7, 9);
+        z.lose(1, 0, 3);
+        z.lose(0, 1, 3);
+        z.setDelay(1, 0, 2);
+        z.tick(1);
+        Check.gives("28 the step 0", () -> z.difference(0, 1), 0);
+        z.tick(3);
+        z.cheat(1, 0, 7, 9);
+        Check.gives("28 the first one still", () -> z.difference(0, 1), 0);
+        Rollbacker one = started(2);
+        one.tick(3);
+        one.lose(1, 0, 3);
+        one.tick(1);
+        one.cheat(1, 0, 7, 9);
+        one.tick(2);
+        Check.gives("28 confirmed by one", () -> one.confirmed(0) * 10 + one.confirmed(1), 35);
+        Check.fails("28 but not by the other one", () -> one.difference(0, 1), ELEMENT);
+        one.tick(2);
+        Check.gives("28 by both", () -> one.difference(0, 1), 3);
         Check.gives("28 what is foretold differs", () -> y.hash(0, 3) == y.hash(1, 3), false);
         Check.fails("28 but is not confirmed", () -> y.difference(0, 1), ELEMENT);
     }

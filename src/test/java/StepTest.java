@@ -30,10 +30,13 @@ public final class StepTest {
         walls();
         boxesApart();
         boxesMovedBefore();
+        allOverlap();
         shotsMeet();
+        shotsAndTheirOwners();
         shotsDone();
         firedFromDestroyed();
         noPlaceForShots();
+        allFire();
         generations();
         Check.end("StepTest");
     }
@@ -277,6 +280,13 @@ public final class StepTest {
         }
         is("first box", x, 0, VX, due[0], VY, 0);
         is("second box", x, 1, VX, due[1], VY, 0);
+        // The seed goes on from step to step.
+        Rollbacker y = ballWith("r20 w1 r20");
+        y.tick(2);
+        int first = 1103515245 + 12345;
+        int second = 1103515245 * first + 12345;
+        int both = (first >>> 16 & 0x7fff) % 41 + (second >>> 16 & 0x7fff) % 41 - 40;
+        is("in two steps", y, 0, VX, both);
     }
 
     private static void ending() {
@@ -289,6 +299,9 @@ public final class StepTest {
         Check.gives("destroyed", () -> x.boxes(0), 1);
         is("nothing touches it", x, 1, TOUCHED, 0, X, 1010);
         Check.gives("no effect", () -> x.effects(0, 0), 0);
+        Rollbacker nothing = ballWith("e f");
+        nothing.tick(1);
+        Check.gives("it does nothing any more", () -> nothing.boxes(0), 0);
         Rollbacker shooting = new Rollbacker();
         addScript(shooting, "w2 e");
         scripted(shooting, 1, 1100, 1000, 0, 0, 0);
@@ -381,6 +394,10 @@ public final class StepTest {
         is("down", down, 1, X, 1003, Y, 1020, VX, 1, VY, 5);
         Rollbacker up = couple(3, 0, 1000, 1000, 0, 0, 1002, 980, 1, 9);
         is("up, a runner, slowed first", up, 1, X, 1003, Y, 980, VX, 1, VY, -6);
+        Rollbacker slow = couple(3, 1, 1000, 1000, 0, 0, 1011, 1000, -1, 0);
+        is("slowly", slow, 1, X, 1020, VX, 0);
+        Rollbacker slowLeft = couple(3, 1, 1000, 1000, 0, 0, 989, 1000, 1, 0);
+        is("slowly", slowLeft, 1, X, 980, VX, 0);
         Rollbacker same = couple(3, 1, 1000, 1000, 0, 0, 1000, 1000, 0, 0);
         is("at the same place", same, 1, X, 1020, Y, 1000);
         Rollbacker fast = couple(1, 3, 1000, 1000, 0, 0, 1001, 1000, -9, 0);
@@ -406,6 +423,9 @@ public final class StepTest {
         Rollbacker down = couple(1, 1, 1000, 1000, 3, 6, 1003, 1013, 1, -2);
         is("along y", down, 0, X, 1003, Y, 999, VX, 3, VY, -2);
         is("along y", down, 1, X, 1004, Y, 1019, VX, 1, VY, 6);
+        Rollbacker up = couple(1, 1, 1003, 1013, 1, -2, 1000, 1000, 3, 6);
+        is("along y, the second one above", up, 0, X, 1004, Y, 1018, VX, 1, VY, 6);
+        is("along y, the second one above", up, 1, X, 1003, Y, 998, VX, 3, VY, -2);
         Rollbacker same = couple(1, 1, 1000, 1000, 0, 0, 1000, 1000, 0, 0);
         is("at the same place", same, 0, X, 990, Y, 1000);
         is("at the same place", same, 1, X, 1010, Y, 1000);
@@ -428,6 +448,68 @@ public final class StepTest {
         Check.gives("0 and 1", () -> x.effectAt(0, 0, 0), 4001);
         Check.gives("0 and 2", () -> x.effectAt(0, 0, 1), 4002);
         Check.gives("1 and 2", () -> x.effectAt(0, 0, 2), 4022);
+        // The same along y.
+        Rollbacker y = new Rollbacker();
+        box(y, 1, 1000, 1018, 0, 0);
+        box(y, 1, 1000, 1002, 0, 4);
+        box(y, 1, 1000, 1024, 0, 0);
+        y.start(1);
+        y.tick(1);
+        is("0", y, 0, X, 1000, Y, 1013, VY, 0);
+        is("1", y, 1, X, 1000, Y, 1002, VY, 0);
+        is("2", y, 2, X, 1000, Y, 1033, VY, 4);
+        Check.gives("all couples found", () -> y.effects(0, 0), 3);
+    }
+
+    private static void allOverlap() {
+        Rollbacker x = new Rollbacker();
+        for (int i = 0; i < 16; i++) {
+            x.addBox(1, 1000 + i, 1000 + i, 255, 1, 0, -1);
+        }
+        x.start(1);
+        x.tick(1);
+        Check.gives("all couples", () -> x.effects(0, 0), 120);
+        int index = 0;
+        for (int first = 0; first < 16; first++) {
+            for (int second = first + 1; second < 16; second++) {
+                int at = index;
+                Check.gives("by rising places", () -> x.effectAt(0, 0, at), 4000 + 20 * first + second);
+                index++;
+            }
+        }
+        Check.gives("sound", x::isSound, true);
+        Check.gives("the same", () -> Check.answerOf(() -> x.difference(0, 0)), "throws.NoSuchElementException");
+    }
+
+    private static void shotsAndTheirOwners() {
+        // The half of the box is so great that its shot is upon it for a step.
+        for (int ahead = 0; ahead < 2; ahead++) {
+            Rollbacker x = new Rollbacker();
+            addScript(x, "f");
+            addScript(x, "e");
+            if (ahead == 1) {
+                scripted(x, 1, 3000, 3000, 0, 0, 1);
+            }
+            x.addBox(1, 1000, 1000, 60, 1, 0, 0);
+            x.start(1);
+            x.tick(2);
+            int shot = 1 - ahead;
+            Check.gives("it goes through", () -> x.boxes(0), 2);
+            Check.gives("no effect", () -> x.effects(0, 1), 0);
+            is("the shot", x, shot, 1, 2, X, 1032, TOUCHED, 0, 8, ahead);
+            is("the owner", x, ahead, 1, 1, TOUCHED, 0);
+        }
+        // A wall fires, and its shot meets what is beside it.
+        Rollbacker y = new Rollbacker();
+        addScript(y, "f");
+        y.addBox(3, 1000, 1000, 60, 1, 0, 0);
+        y.addBox(1, 1075, 1000, 10, 1, 0, -1);
+        y.start(1);
+        y.tick(1);
+        Check.gives("put", () -> y.boxes(0), 3);
+        y.tick(2);
+        Check.gives("it meets the other box, not its owner", () -> y.effectAt(0, 2, 0), 2022);
+        Check.gives("that alone", () -> y.effects(0, 2), 1);
     }
 
     private static void shotsMeet() {
@@ -504,7 +586,7 @@ public final class StepTest {
         // A shot at the place of its own owner, and a box there that is not its owner any more.
         Rollbacker own = ballWith("f e");
         own.tick(1);
-        is("at its owner's place", own, 0, 0, 2, 1, 2, 8, 0, X, 1000);
+        is("at its owner's place", own, 0, 0, 2, 1, 2, 8, 0, X, 1000, NEXT, 0, WAIT, 0, TOUCHED, 0);
         own.tick(20);
         Check.gives("gone", () -> own.boxes(0), 0);
     }
@@ -520,6 +602,23 @@ public final class StepTest {
         Check.gives("two of 112", () -> x.boxes(0), 16);
         is("the first one", x, 14, 8, 0);
         is("the second one", x, 15, 8, 0);
+    }
+
+    private static void allFire() {
+        Rollbacker x = new Rollbacker();
+        addScript(x, "f f f f f f f f");
+        for (int i = 0; i < 16; i++) {
+            scripted(x, 0, 200 + 200 * i, 1000, 0, 0, 0);
+        }
+        x.start(1);
+        x.press(0, 16);
+        x.tick(1);
+        Check.gives("all shots are lost", () -> x.boxes(0), 16);
+        for (int i = 0; i < 16; i++) {
+            is("it has fired", x, i, 1, 0, TIMER, 8, NEXT, 8, SCRIPT, -1);
+        }
+        Check.gives("none differs", () -> Check.answerOf(() -> x.differentField(0, 0)),
+                "throws.NoSuchElementException");
     }
 
     private static void generations() {
