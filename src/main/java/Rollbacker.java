@@ -78,10 +78,8 @@ public final class Rollbacker {
     private static final int LAST_CHEATED = HITS;
     private static final int MOST_CHEATED = 48;
 
-    private final Scripts scripts = new Scripts();
-    private final World built = new World();
-    // Made by start, and null until then.
-    private Game game;
+    // All that a run needs is made here, once: no call makes anything but the exception that it throws.
+    private final Game game = Game.make();
 
     /** Creates a game that is not started, with an empty world. */
     public Rollbacker() {
@@ -90,24 +88,24 @@ public final class Rollbacker {
     // ---- building
 
     public int addScript() throws IllegalStateException {
-        if (game != null || scripts.count >= MOST_SCRIPTS) {
+        if (game.isStarted() || game.scripts.count >= MOST_SCRIPTS) {
             throw new IllegalStateException();
         }
-        return scripts.begin();
+        return game.scripts.begin();
     }
 
     public int addOperation(int script, char kind, int a, int b)
             throws IndexOutOfBoundsException, IllegalArgumentException, IllegalStateException {
-        if (!scripts.isScript(script)) {
+        if (!game.scripts.isScript(script)) {
             throw new IndexOutOfBoundsException();
         }
         if (!isOperation(kind, a, b)) {
             throw new IllegalArgumentException();
         }
-        if (game != null || scripts.lengthOf(script) >= MOST_OPERATIONS) {
+        if (game.isStarted() || game.scripts.lengthOf(script) >= MOST_OPERATIONS) {
             throw new IllegalStateException();
         }
-        return scripts.append(script, kind, a, b);
+        return game.scripts.append(script, kind, a, b);
     }
 
     public int addBox(int kind, int x, int y, int half, int hits, int owner, int script)
@@ -120,32 +118,32 @@ public final class Rollbacker {
         if (kind == RUNNER && !isWithin(owner, 0, MOST_PLAYERS - 1)) {
             throw new IllegalArgumentException();
         }
-        if (script != NONE && !scripts.isScript(script)) {
+        if (script != NONE && !game.scripts.isScript(script)) {
             throw new IndexOutOfBoundsException();
         }
-        int place = built.lowestEmpty();
-        if (game != null || place == NONE) {
+        int place = game.built.lowestEmpty();
+        if (game.isStarted() || place == NONE) {
             throw new IllegalStateException();
         }
-        built.put(place, kind, x, y, half, hits, kind == RUNNER ? owner : NONE);
-        built.write(place, SCRIPT, script);
+        game.built.put(place, kind, x, y, half, hits, kind == RUNNER ? owner : NONE);
+        game.built.write(place, SCRIPT, script);
         return place;
     }
 
     public int push(int place, int vx, int vy)
             throws NoSuchElementException, IllegalArgumentException, IllegalStateException {
-        if (!built.isBox(place)) {
+        if (!game.built.isBox(place)) {
             throw new NoSuchElementException();
         }
         if (!isSpeed(vx) || !isSpeed(vy)) {
             throw new IllegalArgumentException();
         }
-        if (game != null) {
+        if (game.isStarted()) {
             throw new IllegalStateException();
         }
-        int before = 64 * built.read(place, VX) + built.read(place, VY);
-        built.write(place, VX, vx);
-        built.write(place, VY, vy);
+        int before = 64 * game.built.read(place, VX) + game.built.read(place, VY);
+        game.built.write(place, VX, vx);
+        game.built.write(place, VY, vy);
         return before;
     }
 
@@ -153,11 +151,11 @@ public final class Rollbacker {
         if (!isWithin(players, 1, MOST_PLAYERS)) {
             throw new IllegalArgumentException();
         }
-        if (game != null) {
+        if (game.isStarted()) {
             throw new IllegalStateException();
         }
-        game = Game.begin(players, built, scripts);
-        return built.digest();
+        game.begin(players);
+        return game.built.digest();
     }
 
     // ---- links and inputs
@@ -193,7 +191,7 @@ public final class Rollbacker {
     }
 
     public int tick(int ticks) throws IllegalStateException, IllegalArgumentException {
-        if (game == null) {
+        if (!game.isStarted()) {
             throw new IllegalStateException();
         }
         if (!isWithin(ticks, 1, MOST_TICKS_A_CALL) || game.now + ticks > MOST_TICKS) {
@@ -201,7 +199,7 @@ public final class Rollbacker {
         }
         for (int i = 0; i < ticks; i++) {
             game.now++;
-            for (int number = 0; number < game.peers.length; number++) {
+            for (int number = 0; number < game.players; number++) {
                 game.takeTurn(game.peers[number]);
             }
         }
@@ -224,7 +222,7 @@ public final class Rollbacker {
 
     public int known(int peer, int player) throws IndexOutOfBoundsException {
         Peer own = peerAt(peer);
-        if (!isWithin(player, 0, own.knows.length - 1)) {
+        if (!game.isPeer(player)) {
             throw new IndexOutOfBoundsException();
         }
         return own.knows[player];
@@ -239,7 +237,7 @@ public final class Rollbacker {
     }
 
     public int flying() {
-        return game == null ? 0 : game.packetsUnderWay();
+        return game.packetsUnderWay();
     }
 
     // ---- worlds
@@ -269,7 +267,7 @@ public final class Rollbacker {
     }
 
     public int loneHash(int step) throws IllegalStateException, NoSuchElementException {
-        if (game == null) {
+        if (!game.isStarted()) {
             throw new IllegalStateException();
         }
         if (!isWithin(step, 0, game.stepsWithAllInputs() - 1)) {
@@ -280,7 +278,7 @@ public final class Rollbacker {
 
     public int hashWith(int step, int player, int input, int until)
             throws IllegalStateException, IllegalArgumentException, NoSuchElementException {
-        if (game == null) {
+        if (!game.isStarted()) {
             throw new IllegalStateException();
         }
         if (!game.isPeer(player) || !isWithin(input, 0, MOST_INPUT) || until < step) {
@@ -353,11 +351,11 @@ public final class Rollbacker {
     }
 
     public long steps() {
-        return game == null ? 0L : game.stepsInAll();
+        return game.stepsInAll();
     }
 
     public float waste() throws NoSuchElementException {
-        long all = game == null ? 0L : game.stepsInAll();
+        long all = game.stepsInAll();
         if (all <= 0L) {
             throw new NoSuchElementException();
         }
@@ -365,7 +363,7 @@ public final class Rollbacker {
     }
 
     public boolean isSound() {
-        return game == null || game.agreesWithLone();
+        return game.agreesWithLone();
     }
 
     // ---- what the face asks for
@@ -399,14 +397,14 @@ public final class Rollbacker {
     }
 
     private Peer peerAt(int number) throws IndexOutOfBoundsException {
-        if (game == null || !game.isPeer(number)) {
+        if (!game.isPeer(number)) {
             throw new IndexOutOfBoundsException();
         }
         return game.peers[number];
     }
 
     private Link linkAt(int from, int to) throws IndexOutOfBoundsException {
-        if (game == null || !game.isPeer(from) || !game.isPeer(to)) {
+        if (!game.isPeer(from) || !game.isPeer(to)) {
             throw new IndexOutOfBoundsException();
         }
         return game.linkOf(from, to);
@@ -906,7 +904,7 @@ public final class Rollbacker {
         }
     }
 
-    /** A step that a peer has done at some time. */
+    /** A step of a peer; it tells nothing until the peer has made its input for this step. */
     private static final class Moment {
         final World world = new World();
         final long[] came = new long[PLACES];
@@ -965,7 +963,8 @@ public final class Rollbacker {
         final World built;
         final Moment[] moments = new Moment[MOST_STEPS];
         final int[] inputs = new int[MOST_STEPS];
-        final int[] knows;
+        final int[] knows = new int[MOST_PLAYERS];
+        int players;
         int pressed;
         int made;
         int finished;
@@ -977,10 +976,12 @@ public final class Rollbacker {
         boolean cheated;
         int agreed;
 
-        Peer(int number, int players, World built) {
+        Peer(int number, World built) {
             this.number = number;
             this.built = built;
-            knows = new int[players];
+            for (int step = 0; step < MOST_STEPS; step++) {
+                moments[step] = new Moment();
+            }
         }
 
         int debt() {
@@ -989,7 +990,7 @@ public final class Rollbacker {
 
         int sureSteps() {
             int sure = finished;
-            for (int player = 0; player < knows.length; player++) {
+            for (int player = 0; player < players; player++) {
                 sure = Math.min(sure, knows[player]);
             }
             return sure;
@@ -1004,7 +1005,6 @@ public final class Rollbacker {
         }
 
         void makeInput() {
-            moments[made] = new Moment();
             inputs[made] = pressed;
             made++;
             knows[number] = made;
@@ -1062,7 +1062,7 @@ public final class Rollbacker {
         }
     }
 
-    /** The lone run; its steps are kept, as the inputs for them never change. */
+    /** The lone run; its first 'finished' steps are kept, as the inputs for them never change. */
     private static final class LoneRun {
         final World built;
         final Peer[] peers;
@@ -1076,8 +1076,12 @@ public final class Rollbacker {
             this.built = built;
             this.peers = peers;
             this.stepper = stepper;
+            for (int step = 0; step < MOST_STEPS; step++) {
+                worlds[step] = new World();
+            }
         }
 
+        /** A peer that takes no part has inputs, too, but never makes others than 0. */
         private int inputsFor(int step) {
             int inputs = 0;
             for (int player = 0; player < peers.length; player++) {
@@ -1089,10 +1093,9 @@ public final class Rollbacker {
         /** All players must have made their inputs for the step. */
         World worldBehind(int step) {
             for (int next = finished; next <= step; next++) {
-                World world = new World();
+                World world = worlds[next];
                 world.copyFrom(next == 0 ? built : worlds[next - 1]);
                 stepper.run(world, inputsFor(next), unused);
-                worlds[next] = world;
                 finished = next + 1;
             }
             return step < 0 ? built : worlds[step];
@@ -1109,40 +1112,58 @@ public final class Rollbacker {
         }
     }
 
-    /** A game that is started. */
+    /** A game: as many of its peers take part as it has players, none until it is started. */
     private static final class Game {
+        final Scripts scripts;
+        final World built;
         final Peer[] peers;
         final Link[] links;
         final Stepper stepper;
         final LoneRun lone;
+        int players;
         int now;
 
-        Game(Peer[] peers, Link[] links, Stepper stepper, LoneRun lone) {
+        Game(Scripts scripts, World built, Peer[] peers, Link[] links, Stepper stepper, LoneRun lone) {
+            this.scripts = scripts;
+            this.built = built;
             this.peers = peers;
             this.links = links;
             this.stepper = stepper;
             this.lone = lone;
         }
 
-        static Game begin(int players, World built, Scripts scripts) {
-            Peer[] peers = new Peer[players];
-            for (int number = 0; number < players; number++) {
-                peers[number] = new Peer(number, players, built);
+        static Game make() {
+            Scripts scripts = new Scripts();
+            World built = new World();
+            Peer[] peers = new Peer[MOST_PLAYERS];
+            for (int number = 0; number < peers.length; number++) {
+                peers[number] = new Peer(number, built);
             }
-            Link[] links = new Link[players * players];
+            Link[] links = new Link[MOST_PLAYERS * MOST_PLAYERS];
             for (int i = 0; i < links.length; i++) {
                 links[i] = new Link();
             }
             Stepper stepper = new Stepper(scripts);
-            return new Game(peers, links, stepper, new LoneRun(built, peers, stepper));
+            return new Game(scripts, built, peers, links, stepper, new LoneRun(built, peers, stepper));
+        }
+
+        void begin(int many) {
+            players = many;
+            for (int peer = 0; peer < players; peer++) {
+                peers[peer].players = players;
+            }
+        }
+
+        boolean isStarted() {
+            return players > 0;
         }
 
         boolean isPeer(int number) {
-            return number >= 0 && number < peers.length;
+            return number >= 0 && number < players;
         }
 
         Link linkOf(int from, int to) {
-            return links[from * peers.length + to];
+            return links[from * MOST_PLAYERS + to];
         }
 
         int packetsUnderWay() {
@@ -1157,7 +1178,7 @@ public final class Rollbacker {
 
         int stepsWithAllInputs() {
             int least = MOST_STEPS;
-            for (int player = 0; player < peers.length; player++) {
+            for (int player = 0; player < players; player++) {
                 least = Math.min(least, peers[player].made);
             }
             return least;
@@ -1165,7 +1186,7 @@ public final class Rollbacker {
 
         long stepsUndone() {
             long sum = 0L;
-            for (int number = 0; number < peers.length; number++) {
+            for (int number = 0; number < players; number++) {
                 sum += peers[number].undone;
             }
             return sum;
@@ -1173,7 +1194,7 @@ public final class Rollbacker {
 
         long stepsInAll() {
             long sum = stepsUndone();
-            for (int number = 0; number < peers.length; number++) {
+            for (int number = 0; number < players; number++) {
                 sum += peers[number].finished;
             }
             return sum;
@@ -1207,7 +1228,7 @@ public final class Rollbacker {
 
         private void takePackets(Peer peer) {
             int slot = now % SLOTS;
-            for (int from = 0; from < peers.length; from++) {
+            for (int from = 0; from < players; from++) {
                 Link link = linkOf(from, peer.number);
                 peer.knows[from] = Math.max(peer.knows[from], link.reach[slot]);
                 link.clear(slot);
@@ -1215,7 +1236,7 @@ public final class Rollbacker {
         }
 
         private void sendPackets(Peer peer) {
-            for (int to = 0; to < peers.length; to++) {
+            for (int to = 0; to < players; to++) {
                 if (to != peer.number) {
                     linkOf(peer.number, to).send(now, peer.made);
                 }
@@ -1225,7 +1246,7 @@ public final class Rollbacker {
         /** The first step, from the one told on, that was done with another input than is known, or finished. */
         private int firstWrong(Peer peer, int from) {
             for (int step = from; step < peer.finished; step++) {
-                for (int player = 0; player < peers.length; player++) {
+                for (int player = 0; player < players; player++) {
                     boolean isKnown = step < peer.knows[player];
                     if (isKnown && peers[player].inputs[step] != inputOf(peer.moments[step].inputs, player)) {
                         return step;
@@ -1237,7 +1258,7 @@ public final class Rollbacker {
 
         private int inputsFor(Peer peer, int step) {
             int inputs = 0;
-            for (int player = 0; player < peers.length; player++) {
+            for (int player = 0; player < players; player++) {
                 int last = Math.min(step, peer.knows[player] - 1);
                 if (last >= 0) {
                     inputs |= asInputOf(player, peers[player].inputs[last]);
@@ -1247,7 +1268,7 @@ public final class Rollbacker {
         }
 
         boolean agreesWithLone() {
-            for (int number = 0; number < peers.length; number++) {
+            for (int number = 0; number < players; number++) {
                 Peer peer = peers[number];
                 int sure = peer.cheated ? 0 : peer.sureSteps();
                 // Confirmed steps are never taken back, so that those that agreed need no second look.
