@@ -1,6 +1,8 @@
+import java.lang.reflect.Modifier;
 import java.util.ArrayList;
 import java.util.Arrays;
 import java.util.List;
+import java.util.TreeSet;
 
 /**
  * "A method that throws an exception changes nothing. If several exceptions apply, the one that is listed first is
@@ -61,6 +63,7 @@ public final class RefusedTest {
 
     public static void main(String[] args) {
         List<Facts> games = games();
+        isWhole();
         for (Facts game : games) {
             facts(game);
             Object due = tale(begun(game));
@@ -142,6 +145,21 @@ public final class RefusedTest {
         build(x);
         x.start(2);
         Games.pass(x, 390);
+    }
+
+    /** The table has a row for each method of the face. */
+    private static void isWhole() {
+        TreeSet<String> face = new TreeSet<>();
+        for (java.lang.reflect.Method method : Rollbacker.class.getDeclaredMethods()) {
+            if (Modifier.isPublic(method.getModifiers())) {
+                face.add(method.getName());
+            }
+        }
+        TreeSet<String> table = new TreeSet<>();
+        for (Method method : methods()) {
+            table.add(method.name);
+        }
+        Check.gives("methods in the table", table::toString, face.toString());
     }
 
     private static Rollbacker begun(Facts game) {
