@@ -793,6 +793,15 @@ public final class AnswerEdgeTest {
             x.tick(10);
             Check.gives("33 behind the tick " + 10 * i, x::isSound, true);
         }
+        // Nothing was asked of these steps ahead of the cheating.
+        Rollbacker first = Games.runners(2);
+        Games.pass(first, 160);
+        first.cheat(0, 0, Games.HITS, 48);
+        Check.gives("33 confirmed", () -> first.confirmed(0), 150);
+        Check.gives("33 the last step differs", () -> first.hash(0, 149) == first.loneHash(149), false);
+        Check.gives("33 but was cheated", first::isSound, true);
+        first.cheat(1, 0, Games.HITS, 48);
+        Check.gives("33 so were all", first::isSound, true);
         x.cheat(0, 0, Games.HITS, 48);
         Check.gives("33 cheated, behind the last step", x::isSound, true);
         int last = x.confirmed(0) - 1;

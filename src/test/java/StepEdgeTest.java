@@ -35,6 +35,7 @@ public final class StepEdgeTest {
         shotsAtEdges();
         overlaps();
         twoThatDoNothing();
+        shotsAheadOfTheirOwners();
         goneByThen();
         lastHits();
         lesserDepth();
@@ -42,10 +43,12 @@ public final class StepEdgeTest {
         besideWalls();
         towardsWalls();
         halfOfTheDepth();
+        halfOfTheDepthAtTheLastPlaces();
         apartAtTheSamePlace();
         nearer();
         shotTimers();
         placesForShots();
+        shotsByFacing();
         Check.end("StepEdgeTest");
     }
 
@@ -756,6 +759,24 @@ public final class StepEdgeTest {
         }
     }
 
+    // "a shot and the box at the place that is its owner", whichever of them is first, at the last places too
+    private static void shotsAheadOfTheirOwners() {
+        for (int shot : new int[] {0, 1, 14}) {
+            Rollbacker x = new Rollbacker();
+            int end = Games.script(x, "e");
+            int fire = Games.script(x, "f");
+            for (int place = 0; place < 16; place++) {
+                boolean fires = place == shot + 1;
+                x.addBox(Games.WALL, fires ? 1000 : 3000, 1000 + 100 * place, fires ? 90 : 10, 1, 0,
+                        fires ? fire : place == shot ? end : -1);
+            }
+            x.start(1);
+            x.tick(3);
+            Games.is("a shot", x, shot, Games.KIND, Games.SHOT, Games.OWNER, shot + 1, Games.TOUCHED, 0);
+            Check.gives("no effect", () -> x.effects(0, 1) + x.effects(0, 2), 0);
+        }
+    }
+
     // "All couples that overlap behind the motion are found first, and then gone through by the rising first and then
     // second place; a couple of which one was destroyed by then does nothing."
     private static void goneByThen() {
@@ -966,6 +987,23 @@ public final class StepEdgeTest {
         }
     }
 
+    // The same at the last places of a full world.
+    private static void halfOfTheDepthAtTheLastPlaces() {
+        Rollbacker x = new Rollbacker();
+        for (int place = 0; place < 14; place++) {
+            Games.box(x, Games.BALL, 100 + 200 * place, 3000, -1);
+        }
+        Games.pushed(x, Games.BALL, 998, 1000, 2, 0);
+        Games.pushed(x, Games.BALL, 1014, 1000, -3, 0);
+        x.start(1);
+        x.tick(1);
+        Check.gives("14 and 15 alone", () -> x.effects(0, 0) * 10000 + x.effectAt(0, 0, 0), 14295);
+        Games.is("the first one", x, 14, Games.X, 996, Games.VX, -3);
+        Games.is("the second one", x, 15, Games.X, 1016, Games.VX, 2);
+        Games.is("no other one", x, 0, Games.X, 100, Games.VX, 0);
+        Games.is("no other one", x, 1, Games.X, 300, Games.VX, 0);
+    }
+
     // "if it is not less there than the first one": the same number is not less
     private static void apartAtTheSamePlace() {
         for (int apart = -1; apart <= 1; apart++) {
@@ -1067,6 +1105,29 @@ public final class StepEdgeTest {
             Games.is("a shot", last, place, Games.VY, 0, Games.HALF, 2, Games.HITS, 1, Games.TIMER, 20);
             Games.is("a shot", last, place, Games.FACING, 0, Games.SCRIPT, -1, Games.NEXT, 0, Games.WAIT, 0);
             Games.is("a shot", last, place, Games.GENERATION, place == 0 ? 2 : 1, Games.TOUCHED, 0);
+        }
+    }
+
+    // "a speed of 32 by the facing of this when it fired, in the one direction, and 0 in the other [..] the facing of
+    // this"
+    private static void shotsByFacing() {
+        int[] inputs = {2, 8, 1, 4};
+        int[] vx = {32, 0, -32, 0};
+        int[] vy = {0, 32, 0, -32};
+        for (int facing = 0; facing < 4; facing++) {
+            for (int place = 0; place < 15; place += 7) {
+                Rollbacker x = new Rollbacker();
+                for (int i = 0; i < 15; i++) {
+                    Games.box(x, i == place ? Games.RUNNER : Games.WALL, 200 + 200 * i, 1000, -1);
+                }
+                x.start(1);
+                x.press(0, inputs[facing]);
+                x.tick(1);
+                x.press(0, 16 + 15);
+                x.tick(1);
+                Games.is("of " + place, x, 15, Games.VX, vx[facing], Games.VY, vy[facing], Games.FACING, facing);
+                Games.is("of " + place, x, 15, Games.OWNER, place, Games.X, x.field(0, place, Games.X));
+            }
         }
     }
 }
