@@ -575,6 +575,20 @@ public final class AnswerEdgeTest {
                 Check.fails("22 far apart", () -> x.hashWith(MIN, player, 0, MAX), Games.ELEMENT);
                 Check.fails("22 the wrong way", () -> x.hashWith(MAX, player, 0, MIN), Games.ARGUMENT);
             }
+            Rollbacker all = Games.runners(players);
+            all.press(0, 2);
+            Games.pass(all, 149);
+            Rollbacker other = Games.runners(players);
+            other.press(0, 2);
+            Games.pass(other, 149);
+            all.tick(1);
+            other.press(0, 9);
+            other.tick(1);
+            int due = other.loneHash(149);
+            Check.gives("22 the last step of all", () -> all.hashWith(149, 0, 9, 149), due);
+            Check.gives("22 up to the last step of all", () -> all.hashWith(0, 0, 2, 149), all.loneHash(149));
+            Check.fails("22 behind all steps", () -> all.hashWith(149, 0, 9, 150), Games.ELEMENT);
+            Check.fails("22 behind all steps", () -> all.hashWith(150, 0, 9, 150), Games.ELEMENT);
             int none = players;
             Check.fails("22 no player", () -> x.hashWith(0, none, 0, 0), Games.ARGUMENT);
             Check.fails("22 no player", () -> x.hashWith(0, -1, 0, 0), Games.ARGUMENT);
@@ -807,5 +821,19 @@ public final class AnswerEdgeTest {
         int last = x.confirmed(0) - 1;
         Check.gives("33 the hash differs", () -> x.hash(0, last) == x.loneHash(last), false);
         Check.gives("33 not at peer 1", () -> x.hash(1, last) == x.loneHash(last), true);
+        // Cheated in the first step, by each peer in turn: the hash differs from there on.
+        for (int players = 1; players <= 3; players++) {
+            for (int i = 0; i < players; i++) {
+                int peer = i;
+                Rollbacker y = Games.runners(players);
+                y.tick(1);
+                y.cheat(peer, 0, Games.HITS, 5);
+                Check.gives("33 cheated in the first step", y::isSound, true);
+                y.tick(5);
+                Check.gives("33 it is confirmed", () -> y.confirmed(peer) > 0, true);
+                Check.gives("33 its hash differs", () -> y.hash(peer, 0) == y.loneHash(0), false);
+                Check.gives("33 but was cheated in the first step", y::isSound, true);
+            }
+        }
     }
 }
