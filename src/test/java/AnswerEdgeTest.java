@@ -207,6 +207,26 @@ public final class AnswerEdgeTest {
         Games.is("5", x, 15, Games.VX, -48, Games.VY, 48);
         Games.is("5", x, 0, Games.VX, 1, Games.VY, 2);
         Games.is("5 no other one", x, 1, Games.VX, 0, Games.VY, 0);
+        // When the game is started, the boxes that were built are those at such places.
+        Rollbacker started = new Rollbacker();
+        Games.box(started, Games.BALL, 1000, 1000, Games.script(started, "e"));
+        Games.box(started, Games.BALL, 2000, 1000, Games.script(started, "v0,0 f"));
+        started.start(1);
+        started.tick(1);
+        Games.is("5 a shot came", started, 0, Games.KIND, Games.SHOT);
+        Check.gives("5 at the place of what is gone", () -> started.boxes(0), 2);
+        Check.fails("5 a box that is gone", () -> started.push(0, 0, 0), Games.STATE);
+        Check.fails("5 no box was built there", () -> started.push(2, 0, 0), Games.ELEMENT);
+        Rollbacker fired = new Rollbacker();
+        Games.box(fired, Games.BALL, 1000, 1000, Games.script(fired, "f"));
+        Games.box(fired, Games.BALL, 2000, 1000, Games.script(fired, "e"));
+        Games.box(fired, Games.BALL, 3000, 1000, Games.script(fired, "f"));
+        fired.start(1);
+        fired.tick(1);
+        Games.is("5 shots came", fired, 3, Games.KIND, Games.SHOT);
+        Check.fails("5 a shot's place", () -> fired.push(3, 0, 0), Games.ELEMENT);
+        Check.fails("5 a speed of a shot", () -> fired.push(3, 49, 0), Games.ELEMENT);
+        Check.fails("5 a speed ahead of the start", () -> fired.push(1, 49, 0), Games.ARGUMENT);
     }
 
     // 6: "the number of players, 1 to 3"; "Returns the hash of the world."

@@ -615,6 +615,15 @@ public final class StepEdgeTest {
         x.cheat(0, 0, Games.HALF, 3);
         x.tick(1);
         Games.is("a half of 3", x, 0, Games.X, 3, Games.Y, 3);
+        // "Each box but a wall": one that reaches over an edge stays, and so does its speed.
+        Rollbacker wall = new Rollbacker();
+        wall.addBox(Games.WALL, 100, 100, 100, 1, 0, -1);
+        wall.push(0, -8, 12);
+        wall.start(1);
+        wall.tick(1);
+        wall.cheat(0, 0, Games.X, 20);
+        wall.tick(2);
+        Games.is("a wall over an edge", wall, 0, Games.X, 20, Games.Y, 100, Games.VX, -8, Games.VY, 12);
     }
 
     // "in both cases vx becomes minus 3 times itself, divided by 4, cut towards 0"
